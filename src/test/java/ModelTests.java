@@ -19,8 +19,9 @@ public final class ModelTests {
 
     public static void main(String[] args) {
         ModelTests tests = new ModelTests();
-        tests.everyProductAndSymbol();
-        for (int run = 0; run < 420; run++) {
+        tests.everyProduct();
+        tests.everySymbol();
+        for (int run = 0; run < 900; run++) {
             tests.aRun(run);
         }
         tests.check.finish();
@@ -50,20 +51,34 @@ public final class ModelTests {
     }
 
     private void due(String call, int got, int want) {
+        calls++;
         check.due("run " + run + ", call " + calls + ", " + call + " at " + model, got, want);
     }
 
-    private void everyProductAndSymbol() {
+    /** New objects of both kinds, which are the same then. */
+    private void start() {
         codes = new NestedCodes();
         model = new Model();
+        calls = 0;
+    }
+
+    private void everyProduct() {
+        start();
         for (int a = -1; a <= 16; a++) {
             for (int b = -1; b <= 16; b++) {
                 due("product(" + a + ", " + b + ")", codes.product(a, b), model.product(a, b));
             }
         }
+    }
+
+    private void everySymbol() {
+        start();
         for (int k = 1; k <= 3; k++) {
-            due("setOuter", codes.setOuter(12, k), model.setOuter(12, k));
+            model.setOuter(12, k);
             for (int message = -1; message <= model.messages(); message++) {
+                // An object answers 512 calls only, so each message has its own.
+                codes = new NestedCodes();
+                codes.setOuter(12, k);
                 for (int block = -1; block <= 12; block++) {
                     due("symbolFor(" + message + ", " + block + ")",
                         codes.symbolFor(message, block), model.symbolFor(message, block));
@@ -75,10 +90,11 @@ public final class ModelTests {
     private void aRun(int number) {
         run = number;
         seed = 1000003L * number + 17;
-        codes = new NestedCodes();
-        model = new Model();
+        start();
         dear = number % 6 == 0;
-        int length = dear ? 60 : 500;
+        boolean undone = number % 4 < 2;
+        // The questions at the end take up to 150 calls, undoing all up to 250.
+        int length = dear ? 60 : undone ? 255 : 355;
         // Codewords of dimension 3 take the model long, so most runs keep to 1 and 2.
         if (number % 3 != 0) {
             int n = 3 + next(10);
@@ -91,14 +107,23 @@ public final class ModelTests {
         if (next(3) != 0) {
             newInnerCode();
         }
-        for (calls = 0; calls < length; calls++) {
+        while (calls < length) {
             if (next(3) != 0) {
                 change();
             } else {
                 question();
             }
         }
-        allQuestions();
+        if (undone) {
+            undoAll();
+        } else {
+            allQuestions();
+        }
+        check.that("run " + run + " has at most 512 calls, " + calls, calls <= 512);
+    }
+
+    private void undoAll() {
+        stateQuestions();
         while (model.count(6) > 0) {
             due("undo()", codes.undo(), model.undo());
             stateQuestions();
@@ -206,22 +231,28 @@ public final class ModelTests {
         for (int what = 0; what <= 8; what++) {
             due("count(" + what + ")", codes.count(what), model.count(what));
         }
-        for (int symbol = 0; symbol < 16; symbol++) {
-            due("wordOf(" + symbol + ")", codes.wordOf(symbol), model.wordOf(symbol));
+        for (int i = 0; i < 4; i++) {
+            due("wordOf(" + (1 << i) + ")", codes.wordOf(1 << i), model.wordOf(1 << i));
         }
         due("sent()", codes.sent(), model.sent());
         for (int j = 0; j < model.blocks(); j++) {
             due("received(" + j + ")", codes.received(j), model.received(j));
-            due("blockAt(" + j + ")", codes.blockAt(j), model.blockAt(j));
-            for (int what = 0; what <= 4; what++) {
-                due("block(" + j + ", " + what + ")", codes.block(j, what), model.block(j, what));
-            }
         }
+        int last = model.blocks() - 1;
+        due("blockAt(0)", codes.blockAt(0), model.blockAt(0));
+        due("blockAt(" + last + ")", codes.blockAt(last), model.blockAt(last));
     }
 
     private void allQuestions() {
         stateQuestions();
+        for (int symbol = 0; symbol < 16; symbol++) {
+            due("wordOf(" + symbol + ")", codes.wordOf(symbol), model.wordOf(symbol));
+        }
         for (int j = 0; j < model.blocks(); j++) {
+            due("blockAt(" + j + ")", codes.blockAt(j), model.blockAt(j));
+            for (int what = 0; what <= 4; what++) {
+                due("block(" + j + ", " + what + ")", codes.block(j, what), model.block(j, what));
+            }
             due("strength(" + j + ")", codes.strength(j), model.strength(j));
         }
         for (int s = 0; s < model.count(2); s++) {

@@ -1,15 +1,5 @@
 /** One method for each promise of the document; the answers are worked out by hand. */
-public final class PromiseTests {
-    private static final int INVALID = NestedCodes.INVALID_ARGUMENT;
-    private static final int IMPOSSIBLE = NestedCodes.NOT_POSSIBLE;
-    private static final int LIMIT = NestedCodes.LIMIT_REACHED;
-    private static final int NONE = NestedCodes.NOT_FOUND;
-    private static final int LEAST = Integer.MIN_VALUE;
-    private static final int GREATEST = Integer.MAX_VALUE;
-
-    private final Check check = new Check();
-    private int promise;
-
+public final class PromiseTests extends TestCase {
     public static void main(String[] args) {
         PromiseTests tests = new PromiseTests();
         tests.all();
@@ -50,63 +40,8 @@ public final class PromiseTests {
         p31Nearest();
     }
 
-    private void due(String call, int got, int want) {
-        check.due("promise " + promise + ": " + call, got, want);
-    }
-
-    /** A call that must answer with an error and leave everything as it was. */
-    private interface Call {
-        int answer();
-    }
-
-    private void refused(NestedCodes x, String call, int error, Call made) {
-        String before = picture(x);
-        due(call, made.answer(), error);
-        check.that("promise " + promise + ": " + call + " changes nothing", picture(x).equals(before));
-    }
-
-    private static String picture(NestedCodes x) {
-        StringBuilder all = new StringBuilder();
-        for (int what = 0; what <= 8; what++) {
-            all.append(x.count(what)).append(' ');
-        }
-        for (int symbol = 0; symbol < 16; symbol++) {
-            all.append(x.wordOf(symbol)).append(' ');
-        }
-        for (int block = 0; block < x.count(0); block++) {
-            all.append(x.received(block)).append(' ');
-        }
-        return all.append(x.sent()).append(' ').append(x.decode()).toString();
-    }
-
-    private static NestedCodes with(int n, int k) {
-        NestedCodes x = new NestedCodes();
-        x.setOuter(n, k);
-        return x;
-    }
-
-    /** The inner code with these generators. */
-    private static NestedCodes with(int n, int k, int b, int... generators) {
-        NestedCodes x = with(n, k);
-        for (int generator : generators) {
-            x.generator(generator);
-        }
-        x.setInner(b);
-        return x;
-    }
-
-    /** Each symbol is its own word: b = 4, d = 1. */
-    private static NestedCodes bare(int n, int k) {
-        return with(n, k, 4, 1, 2, 4, 8);
-    }
-
-    /** Each bit of a symbol is sent twice: b = 8, d = 2. */
-    private static NestedCodes doubled(int n, int k) {
-        return with(n, k, 8, 3, 12, 48, 192);
-    }
-
     private void p1NewObject() {
-        promise = 1;
+        promise(1);
         NestedCodes x = new NestedCodes();
         int[] counts = {8, 3, 6, 7, 3, 0, 0, 0, 0};
         for (int what = 0; what < counts.length; what++) {
@@ -141,7 +76,7 @@ public final class PromiseTests {
     }
 
     private void p2SetOuter() {
-        promise = 2;
+        promise(2);
         NestedCodes x = new NestedCodes();
         due("setOuter(12, 1)", x.setOuter(12, 1), 83);
         due("setOuter(3, 2)", x.setOuter(3, 2), 121);
@@ -180,7 +115,7 @@ public final class PromiseTests {
     }
 
     private void p3Generator() {
-        promise = 3;
+        promise(3);
         NestedCodes x = new NestedCodes();
         refused(x, "generator(0)", INVALID, () -> x.generator(0));
         refused(x, "generator(1024)", INVALID, () -> x.generator(1024));
@@ -198,7 +133,7 @@ public final class PromiseTests {
     }
 
     private void p4ClearGenerators() {
-        promise = 4;
+        promise(4);
         NestedCodes x = new NestedCodes();
         due("clearGenerators() of none", x.clearGenerators(), 0);
         x.generator(9);
@@ -214,7 +149,7 @@ public final class PromiseTests {
     }
 
     private void p5SetInner() {
-        promise = 5;
+        promise(5);
         NestedCodes x = new NestedCodes();
         x.send(291);
         x.lose(1, 1);
@@ -269,7 +204,7 @@ public final class PromiseTests {
     }
 
     private void p6Undo() {
-        promise = 6;
+        promise(6);
         NestedCodes x = new NestedCodes();
         due("undo() of nothing", x.undo(), IMPOSSIBLE);
         x.send(291);
@@ -302,7 +237,7 @@ public final class PromiseTests {
         due("undo() of send", x.undo(), 0);
         due("sent()", x.sent(), 0);
         due("received(1)", x.received(1), 0);
-        refused(x, "undo() of nothing more", IMPOSSIBLE, x::undo);
+        refused(x, "undo() of nothing more", IMPOSSIBLE, () -> x.undo());
         fullHistory();
     }
 
@@ -344,7 +279,7 @@ public final class PromiseTests {
     }
 
     private void p7Count() {
-        promise = 7;
+        promise(7);
         NestedCodes x = doubled(5, 2);
         int[] counts = {5, 2, 4, 8, 2, 0, 2, 0, 0};
         for (int what = 0; what < counts.length; what++) {
@@ -372,7 +307,7 @@ public final class PromiseTests {
     }
 
     private void p8WordOf() {
-        promise = 8;
+        promise(8);
         NestedCodes x = new NestedCodes();
         int[] words = {0, 49, 82, 99, 100, 85, 54, 7, 120, 73, 42, 27, 28, 45, 78, 127};
         for (int symbol = 0; symbol < 16; symbol++) {
@@ -389,7 +324,7 @@ public final class PromiseTests {
     }
 
     private void p9Product() {
-        promise = 9;
+        promise(9);
         NestedCodes x = new NestedCodes();
         // The powers of 2 run through all numbers but 0.
         int[] powers = {1, 2, 4, 8, 3, 6, 12, 11, 5, 10, 7, 14, 15, 13, 9};
@@ -410,7 +345,7 @@ public final class PromiseTests {
     }
 
     private void p10SymbolFor() {
-        promise = 10;
+        promise(10);
         NestedCodes x = new NestedCodes();
         int[] squares = {1, 4, 5, 3, 2, 7, 6, 12};
         for (int block = 0; block < 8; block++) {
@@ -439,7 +374,7 @@ public final class PromiseTests {
     }
 
     private void p11Send() {
-        promise = 11;
+        promise(11);
         NestedCodes x = new NestedCodes();
         due("send(1)", x.send(1), 24);
         due("received(7)", x.received(7), 49);
@@ -467,7 +402,7 @@ public final class PromiseTests {
     }
 
     private void p12Flip() {
-        promise = 12;
+        promise(12);
         NestedCodes x = new NestedCodes();
         due("flip(0, 1)", x.flip(0, 1), 1);
         due("flip(0, 48)", x.flip(0, 48), 0);
@@ -495,7 +430,7 @@ public final class PromiseTests {
     }
 
     private void p13Lose() {
-        promise = 13;
+        promise(13);
         NestedCodes x = new NestedCodes();
         x.send(291);
         due("lose(1, 1)", x.lose(1, 1), 0);
@@ -522,7 +457,7 @@ public final class PromiseTests {
     }
 
     private void p14Burst() {
-        promise = 14;
+        promise(14);
         NestedCodes x = new NestedCodes();
         due("burst(6, 1)", x.burst(6, 1), 1);
         due("received(0)", x.received(0), 64);
@@ -563,7 +498,7 @@ public final class PromiseTests {
     }
 
     private void p15SendCascade() {
-        promise = 15;
+        promise(15);
         NestedCodes x = new NestedCodes();
         due("sendCascade() of no errors", x.sendCascade(), 0);
         due("is a change", x.count(6), 1);
@@ -607,11 +542,11 @@ public final class PromiseTests {
         z.send(9);
         z.flip(0, 1);
         z.flip(1, 2);
-        refused(z, "sendCascade() without a decoded message", IMPOSSIBLE, z::sendCascade);
+        refused(z, "sendCascade() without a decoded message", IMPOSSIBLE, () -> z.sendCascade());
     }
 
     private void p16Received() {
-        promise = 16;
+        promise(16);
         NestedCodes x = new NestedCodes();
         x.send(16);
         x.flip(2, 4);
@@ -627,7 +562,7 @@ public final class PromiseTests {
     }
 
     private void p17Sent() {
-        promise = 17;
+        promise(17);
         NestedCodes x = new NestedCodes();
         due("sent()", x.sent(), 0);
         x.send(4095);
@@ -645,7 +580,7 @@ public final class PromiseTests {
     }
 
     private void p18Block() {
-        promise = 18;
+        promise(18);
         NestedCodes x = doubled(4, 1);
         x.send(1);
         x.flip(0, 1);
@@ -681,7 +616,7 @@ public final class PromiseTests {
     }
 
     private void p19BlockAt() {
-        promise = 19;
+        promise(19);
         NestedCodes x = new NestedCodes();
         for (int place = 0; place < 8; place++) {
             due("blockAt(" + place + ")", x.blockAt(place), place);
@@ -703,7 +638,7 @@ public final class PromiseTests {
     }
 
     private void p20Strength() {
-        promise = 20;
+        promise(20);
         NestedCodes x = new NestedCodes();
         due("strength(0)", x.strength(0), 2);
         x.flip(0, 1);
@@ -733,7 +668,7 @@ public final class PromiseTests {
     }
 
     private void p21Trial() {
-        promise = 21;
+        promise(21);
         NestedCodes x = bare(4, 1);
         x.send(9);
         x.flip(0, 1);
@@ -773,7 +708,7 @@ public final class PromiseTests {
     }
 
     private void p22Score() {
-        promise = 22;
+        promise(22);
         NestedCodes x = new NestedCodes();
         due("score(0)", x.score(0), 24);
         due("score(1)", x.score(1), -24);
@@ -795,7 +730,7 @@ public final class PromiseTests {
     }
 
     private void p23Lawful() {
-        promise = 23;
+        promise(23);
         NestedCodes x = new NestedCodes();
         due("lawful()", x.lawful(), 1);
         NestedCodes y = bare(4, 1);
@@ -823,16 +758,6 @@ public final class PromiseTests {
         return x;
     }
 
-    /** Repeated 5, with the blocks 0 and 1 gone wrong and block 3 lost: 4, 7, 5, lost. */
-    private static NestedCodes undecided() {
-        NestedCodes x = bare(4, 1);
-        x.send(5);
-        x.flip(0, 1);
-        x.flip(1, 2);
-        x.lose(3, 1);
-        return x;
-    }
-
     /** Block 0 has the symbol 1 with reliability 3, the others 0 with reliability 1 each. */
     private static NestedCodes outvoted() {
         NestedCodes x = with(4, 1);
@@ -844,7 +769,7 @@ public final class PromiseTests {
     }
 
     private void p24Decode() {
-        promise = 24;
+        promise(24);
         NestedCodes x = new NestedCodes();
         due("decode()", x.decode(), 0);
         x.send(4095);
@@ -869,7 +794,7 @@ public final class PromiseTests {
     }
 
     private void p25DecidingTrial() {
-        promise = 25;
+        promise(25);
         NestedCodes x = new NestedCodes();
         due("decidingTrial()", x.decidingTrial(), 0);
         due("decidingTrial() without", undecided().decidingTrial(), NONE);
@@ -892,7 +817,7 @@ public final class PromiseTests {
     }
 
     private void p26Margin() {
-        promise = 26;
+        promise(26);
         NestedCodes x = new NestedCodes();
         due("margin()", x.margin(), 18);
         x.flip(0, 1);
@@ -913,7 +838,7 @@ public final class PromiseTests {
     }
 
     private void p27WastedTrials() {
-        promise = 27;
+        promise(27);
         NestedCodes x = new NestedCodes();
         due("wastedTrials()", x.wastedTrials(), 0);
         due("wastedTrials() of all", undecided().wastedTrials(), 4);
@@ -936,7 +861,7 @@ public final class PromiseTests {
     }
 
     private void p28IsGuaranteed() {
-        promise = 28;
+        promise(28);
         NestedCodes x = new NestedCodes();
         due("isGuaranteed()", x.isGuaranteed(), 1);
         x.burst(0, 8);
@@ -963,7 +888,7 @@ public final class PromiseTests {
     }
 
     private void p29FragileBits() {
-        promise = 29;
+        promise(29);
         due("fragileBits()", new NestedCodes().fragileBits(), 0);
         NestedCodes x = with(4, 3);
         due("fragileBits() at the margin", x.fragileBits(), 0);
@@ -995,7 +920,7 @@ public final class PromiseTests {
     }
 
     private void p30FragileBlocks() {
-        promise = 30;
+        promise(30);
         due("fragileBlocks()", new NestedCodes().fragileBlocks(), 0);
         NestedCodes x = with(4, 3);
         due("score 9 is left, more than 6", x.fragileBlocks(), 0);
@@ -1018,7 +943,7 @@ public final class PromiseTests {
     }
 
     private void p31Nearest() {
-        promise = 31;
+        promise(31);
         NestedCodes x = new NestedCodes();
         due("nearest(0)", x.nearest(0), 6);
         due("nearest(1)", x.nearest(1), 273);
