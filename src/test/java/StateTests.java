@@ -161,12 +161,18 @@ public final class StateTests extends TestCase {
         lose(11, 1), lose(0, 1), generator(3), flip(5, 1), flip(1, 31)
     };
 
+    /** Decoding gives 2 where 1 was sent; four generators wait, whose words would not all differ. */
+    private static final Step[] OTHER = {
+        setOuter(4, 1), inner(5, 3, 5, 9, 17), generator(1), generator(2), generator(4), generator(7),
+        send(1), flip(0, 6), flip(1, 6), flip(3, 6)
+    };
+
     /** The shortest codes; all blocks are lost and decoding fails. */
     private static final Step[] LOST = {
         setOuter(3, 1), inner(4, 1, 2, 4, 8), send(5), lose(0, 1), lose(1, 1), lose(2, 1)
     };
 
-    private static final Step[][] STARTS = {NEW, READY, SHORT, LONG, LOST};
+    private static final Step[][] STARTS = {NEW, READY, SHORT, LONG, OTHER, LOST};
 
     /** A change of each kind, and of most kinds one by which little or nothing becomes different. */
     private static final Step[] CHANGES = {
@@ -314,6 +320,8 @@ public final class StateTests extends TestCase {
     }
 
     private void cascades() {
+        promise(15, "what was decoded becomes the sent message");
+        due("sent() where decoding gives another message", made(then(OTHER, CASCADE)).sent(), 2);
         promise(15, "All this is done in lost blocks, too (by their received words), which stay lost.");
         Step[] steps = then(new Step[0], setOuter(7, 2), send(200), flip(2, 64), flip(3, 1), flip(4, 72), lose(4, 1));
         for (int stage = 1; stage <= 8; stage++) {
@@ -352,7 +360,8 @@ public final class StateTests extends TestCase {
     private static Step[] calls() {
         return new Step[] {
             setOuter(2, 1), setOuter(13, 3), setOuter(8, 0), setOuter(8, 4), setOuter(3, 3),
-            generator(0), generator(1024), setInner(3), setInner(11), setInner(7), UNDO,
+            generator(0), generator(1024), generator(1), UNDO,
+            setInner(3), setInner(11), setInner(4), setInner(5),
             send(-1), send(16), send(256), send(4096),
             flip(-1, 1), flip(12, 1), flip(0, 0), flip(0, 1024), flip(0, 1), flip(2, 1), flip(11, 1),
             lose(-1, 0), lose(12, 1), lose(0, -1), lose(0, 2),
@@ -370,6 +379,7 @@ public final class StateTests extends TestCase {
             new Step("strength(12)", x -> x.strength(12), m -> m.strength(12)),
             new Step("strength(0)", x -> x.strength(0), m -> m.strength(0)),
             new Step("trial(12)", x -> x.trial(12), m -> m.trial(12)),
+            new Step("trial(0)", x -> x.trial(0), m -> m.trial(0)),
             new Step("score(4096)", x -> x.score(4096), m -> m.score(4096)),
             new Step("decode()", x -> x.decode(), m -> m.decode()),
             new Step("decidingTrial()", x -> x.decidingTrial(), m -> m.decidingTrial()),
